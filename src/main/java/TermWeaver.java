@@ -374,7 +374,7 @@ public final class TermWeaver {
             int settled = 0;
             for (int x = 0; x < nodes.made; x++) {
                 if (row[x] == x && valueOf[x] == NONE && hasSettledArguments(row, x)) {
-                    valueOf[x] = valueLike(row, x);
+                    valueOf[x] = nodes.isVariable(x) ? addVariable() : valueLike(row, x);
                     settled++;
                 }
             }
@@ -392,9 +392,6 @@ public final class TermWeaver {
         }
 
         private int valueLike(int[] row, int x) {
-            if (nodes.isVariable(x)) {
-                return addVariable();
-            }
             int a = valueUnder(row, nodes.first[x]);
             int b = valueUnder(row, nodes.second[x]);
             for (int v = 0; v < made; v++) {

@@ -28,6 +28,9 @@ public final class PromiseTest {
         at();
         matches();
         common();
+        chainOfBoundVariables();
+        longLists();
+        twoTowers();
         objectsApart();
         System.out.println(wrong == 0 ? "all promises hold" : wrong + " answers are wrong");
         if (wrong != 0) {
@@ -553,6 +556,82 @@ public final class PromiseTest {
         due("15: tower", tower(true).common(39, 39), (1L << 40) - 1);
         due("15: tower beside one lower by ten", tower(true).common(39, 29), (1L << 30) - 1);
         due("15: tower beside one lower by one", tower(true).common(39, 38), 1L);
+    }
+
+    /** Each variable is bound to a term of the next one, so that every value hangs on later nodes. */
+    private static void chainOfBoundVariables() {
+        TermWeaver x = new TermWeaver();
+        for (int i = 0; i < 20; i++) {
+            x.variable();
+        }
+        for (int i = 0; i < 20; i++) {
+            x.term(1, i, i);
+        }
+        for (int i = 0; i < 19; i++) {
+            due("4: chain " + i, x.unify(i, 20 + i + 1), 1);
+        }
+        due("10: chain", x.size(20), (1L << 21) - 1);
+        due("11: chain", x.depth(20), 21);
+        due("12: chain", x.variables(20), 1);
+        due("13: chain", x.at(20, 20), -20);
+        due("9: chain", x.leader(39), 18);
+        due("14: chain", x.matches(39, 20), true);
+        due("15: chain", x.common(20, 30), (1L << 11) - 1);
+        dueThrow("5: chain closed", () -> x.unify(19, 20), STATE);
+        due("5: chain closed", x.why(), 2);
+        due("6: chain", x.undo(18), 1);
+        due("10: chain after undo", x.size(20), 7L);
+    }
+
+    private static int list(TermWeaver x, int from, int to) {
+        int rest = to;
+        for (int i = to - 1; i >= from; i--) {
+            rest = x.term(2, i, rest);
+        }
+        return rest;
+    }
+
+    private static void longLists() {
+        TermWeaver x = new TermWeaver();
+        for (int i = 0; i < 20; i++) {
+            x.variable();
+        }
+        int left = list(x, 0, 9);
+        int right = list(x, 10, 19);
+        due("12: ten", x.variables(left), 10);
+        due("4: lists", x.unify(left, right), 10);
+        due("8: lists' ends", x.same(9, 19), true);
+        due("9: lists' ends", x.leader(19), 9);
+        due("6: lists", x.undo(1), 0);
+        TermWeaver y = new TermWeaver();
+        for (int i = 0; i < 20; i++) {
+            y.variable();
+        }
+        due("12: twenty", y.variables(list(y, 0, 19)), 20);
+    }
+
+    /** One tower on a variable, with the even nodes, and one on a constant, with the odd ones. */
+    private static void twoTowers() {
+        TermWeaver x = new TermWeaver();
+        x.variable();
+        constant(x, 3);
+        for (int i = 2; i < 40; i++) {
+            x.term(4, i - 2, i - 2);
+        }
+        dueThrow("4: towers, one lower", () -> x.unify(38, 37), STATE);
+        due("5: towers, clash at the bottom", x.why(), 1);
+        dueThrow("4: a tower below itself", () -> x.unify(38, 36), STATE);
+        due("5: towers, loop at the bottom", x.why(), 2);
+        due("4: towers, one higher", x.unify(36, 39), 1);
+        due("9: towers, one higher", x.leader(39), 36);
+        due("10: towers, one higher", x.size(38), (1L << 21) - 1);
+        due("6: towers", x.undo(1), 0);
+        due("4: towers", x.unify(38, 39), 1);
+        due("9: towers", x.leader(39), 38);
+        due("9: towers, bottom", x.leader(1), 0);
+        due("13: towers", x.at(38, x.size(38) - 1), 9);
+        dueThrow("4: towers, then a clash", () -> x.unify(0, 3), STATE);
+        due("5: towers, then a clash", x.why(), 1);
     }
 
     private static void objectsApart() {
