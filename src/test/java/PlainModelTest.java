@@ -12,6 +12,7 @@ import java.util.TreeSet;
 public final class PlainModelTest {
     private static final int RUNS = 4000;
     private static final int CALLS = 110;
+    private static final int MOST_CALLS = 512;
     private static final int LONGEST = 3000;
 
     private static int wrong = 0;
@@ -271,8 +272,10 @@ public final class PlainModelTest {
         private final int[] seen;
         private final int symbols;
         private final int mostNodes;
-        private final TermWeaver x = new TermWeaver();
+        private final List<Call> changes = new ArrayList<>();
         private final Model model = new Model();
+        private TermWeaver x = new TermWeaver();
+        private int used = 0;
 
         Run(int runNumber, int[] seenFaults) {
             number = runNumber;
@@ -297,13 +300,35 @@ public final class PlainModelTest {
             lookAtAll();
         }
 
-        private void due(String call, Call asked, Object want) {
-            String got;
+        private String answered(Call asked) {
+            used++;
             try {
-                got = String.valueOf(asked.answer());
+                return String.valueOf(asked.answer());
             } catch (RuntimeException e) {
-                got = e.getClass().getSimpleName();
+                return e.getClass().getSimpleName();
             }
+        }
+
+        /** Nothing is promised of an object after so many calls: a new one is brought to the same state. */
+        private void takeNewObjectInTime() {
+            if (used < MOST_CALLS) {
+                return;
+            }
+            x = new TermWeaver();
+            used = 0;
+            for (Call change : changes) {
+                answered(change);
+            }
+        }
+
+        private void change(String call, Call asked, Object want) {
+            due(call, asked, want);
+            changes.add(asked);
+        }
+
+        private void due(String call, Call asked, Object want) {
+            takeNewObjectInTime();
+            String got = answered(asked);
             if (!got.equals(String.valueOf(want))) {
                 wrong++;
                 System.out.println("run " + number + ": " + call + " answered " + got + ", due is " + want);
@@ -320,19 +345,19 @@ public final class PlainModelTest {
             int symbol = random.nextInt(symbols);
             if (kind <= 1) {
                 model.nodes.add(new int[] {-1});
-                due("variable()", () -> x.variable(), count);
+                change("variable()", () -> x.variable(), count);
             } else if (kind == 2 && random.nextBoolean()) {
                 model.nodes.add(new int[] {3 * symbol});
-                due("term of none", () -> x.term(symbol, -1, -1), count);
+                change("term of none", () -> x.term(symbol, -1, -1), count);
             } else if (kind <= 3) {
                 int a = anyNode();
                 model.nodes.add(new int[] {3 * symbol + 1, a});
-                due("term of one", () -> x.term(symbol, a, -1), count);
+                change("term of one", () -> x.term(symbol, a, -1), count);
             } else {
                 int a = anyNode();
                 int b = anyNode();
                 model.nodes.add(new int[] {3 * symbol + 2, a, b});
-                due("term of two", () -> x.term(symbol, a, b), count);
+                change("term of two", () -> x.term(symbol, a, b), count);
             }
             model.values = model.solve(model.equations);
         }
@@ -355,7 +380,7 @@ public final class PlainModelTest {
             int t = anyNode();
             String want = model.unify(s, t);
             seen[model.why]++;
-            due("unify(" + s + ", " + t + ")", () -> x.unify(s, t), want);
+            change("unify(" + s + ", " + t + ")", () -> x.unify(s, t), want);
             due("why()", () -> x.why(), model.why);
         }
 
@@ -366,7 +391,7 @@ public final class PlainModelTest {
                 model.equations.subList(count - n, count).clear();
                 model.values = model.solve(model.equations);
             }
-            due("undo(" + n + ")", () -> x.undo(n), n > count ? "IllegalArgumentException" : count - n);
+            change("undo(" + n + ")", () -> x.undo(n), n > count ? "IllegalArgumentException" : count - n);
             due("why()", () -> x.why(), model.why);
         }
 

@@ -1,3 +1,5 @@
+import java.util.ArrayList;
+import java.util.List;
 import java.util.Random;
 
 /**
@@ -6,13 +8,17 @@ import java.util.Random;
  */
 public final class WildCallsTest {
     private static final int[] ODD = {-1, -2, 40, 41, 63, 64, 512, Integer.MIN_VALUE, Integer.MAX_VALUE};
-    private static final int OBJECTS = 1500;
+    private static final int OBJECTS = 250;
     private static final int CALLS = 512;
+    // More than are asked about a pair of nodes.
+    private static final int QUESTIONS = 24;
 
     private static int wrong = 0;
 
     private final Random random;
-    private final TermWeaver x = new TermWeaver();
+    private final List<long[]> changes = new ArrayList<>();
+    private TermWeaver x = new TermWeaver();
+    private int nodes = 0;
 
     private WildCallsTest(int seed) {
         random = new Random(seed);
@@ -30,18 +36,28 @@ public final class WildCallsTest {
 
     private void go(int seed) {
         for (int call = 0; call < CALLS; call++) {
-            int kind = random.nextInt(14);
-            String thrown = "";
-            try {
-                make(kind);
-            } catch (RuntimeException e) {
-                thrown = e.getClass().getSimpleName();
+            long[] made = anyCall();
+            String thrown = thrownBy(made);
+            if (!isNamed((int) made[0], thrown)) {
+                fault("object " + seed + ", call " + call + " of kind " + made[0] + " threw " + thrown);
             }
-            if (!isNamed(kind, thrown)) {
-                fault("object " + seed + ", call " + call + " of kind " + kind + " threw " + thrown);
+            if (made[0] < 5) {
+                changes.add(made);
+            }
+            if (made[0] < 3 && thrown.isEmpty()) {
+                nodes++;
             }
         }
         hangTogether(seed);
+    }
+
+    private String thrownBy(long[] made) {
+        try {
+            make((int) made[0], (int) made[1], made[2], (int) made[3]);
+            return "";
+        } catch (RuntimeException e) {
+            return e.getClass().getSimpleName();
+        }
     }
 
     private static void fault(String text) {
@@ -65,48 +81,80 @@ public final class WildCallsTest {
     }
 
     private int any() {
-        return random.nextInt(40) == 0 ? ODD[random.nextInt(ODD.length)] : random.nextInt(Math.max(1, x.count(0)));
+        return random.nextInt(40) == 0 ? ODD[random.nextInt(ODD.length)] : random.nextInt(Math.max(1, nodes));
     }
 
     private int anyOrNone() {
         return random.nextInt(5) == 0 ? -1 : any();
     }
 
-    private void make(int kind) {
+    /** The kind of a call and three arguments, of which it takes those that it needs. */
+    private long[] anyCall() {
+        int kind = random.nextInt(14);
         switch (kind) {
-            case 0, 1 -> x.variable();
-            case 2 -> x.term(random.nextInt(40) == 0 ? any() : random.nextInt(2), anyOrNone(), anyOrNone());
-            case 3 -> x.unify(any(), any());
-            case 4 -> x.undo(random.nextInt(8) == 0 ? any() : random.nextInt(2));
-            case 5 -> x.count(any());
-            case 6 -> x.same(any(), any());
-            case 7 -> x.leader(any());
-            case 8 -> x.size(any());
-            case 9 -> x.depth(any());
-            case 10 -> x.variables(any());
-            case 11 -> x.matches(any(), any());
-            case 12 -> x.at(any(), random.nextBoolean() ? random.nextLong() : random.nextInt(50));
-            default -> x.common(any(), any());
+            case 2:
+                return new long[] {kind, random.nextInt(40) == 0 ? any() : random.nextInt(2), anyOrNone(), anyOrNone()};
+            case 4:
+                return new long[] {kind, random.nextInt(8) == 0 ? any() : random.nextInt(2), 0, 0};
+            case 12:
+                return new long[] {kind, any(), random.nextBoolean() ? random.nextLong() : random.nextInt(50), 0};
+            default:
+                return new long[] {kind, any(), any(), 0};
         }
     }
 
+    private void make(int kind, int a, long place, int c) {
+        int b = (int) place;
+        switch (kind) {
+            case 0, 1 -> x.variable();
+            case 2 -> x.term(a, b, c);
+            case 3 -> x.unify(a, b);
+            case 4 -> x.undo(a);
+            case 5 -> x.count(a);
+            case 6 -> x.same(a, b);
+            case 7 -> x.leader(a);
+            case 8 -> x.size(a);
+            case 9 -> x.depth(a);
+            case 10 -> x.variables(a);
+            case 11 -> x.matches(a, b);
+            case 12 -> x.at(a, place);
+            default -> x.common(a, b);
+        }
+    }
+
+    private void takeNewObject() {
+        x = new TermWeaver();
+        for (long[] change : changes) {
+            thrownBy(change);
+        }
+    }
+
+    /** Nothing is promised of an object after its 512th call, so that new ones are asked. */
     private void hangTogether(int seed) {
-        int count = x.count(0);
-        for (int s = 0; s < count; s++) {
-            for (int t = 0; t < count; t++) {
-                boolean same = x.same(s, t);
-                boolean bothWays = x.matches(s, t) && x.matches(t, s);
-                boolean holds = same == (x.leader(s) == x.leader(t))
-                    && (!same || bothWays && x.size(s) == x.size(t) && x.depth(s) == x.depth(t))
-                    && x.common(s, t) == x.common(t, s)
-                    && x.common(s, t) <= Math.min(x.size(s), x.size(t))
-                    && (!same || x.common(s, t) == x.size(s))
-                    && (!x.matches(s, t) || x.common(s, t) == x.size(s))
-                    && (!bothWays || x.variables(s) == x.variables(t));
-                if (!holds) {
+        int used = CALLS;
+        for (int s = 0; s < nodes; s++) {
+            for (int t = 0; t < nodes; t++) {
+                if (used + QUESTIONS > CALLS) {
+                    takeNewObject();
+                    used = changes.size();
+                }
+                used += QUESTIONS;
+                if (!hangsTogether(s, t)) {
                     fault("object " + seed + ": the answers of " + s + " and " + t + " do not hang together");
                 }
             }
         }
+    }
+
+    private boolean hangsTogether(int s, int t) {
+        boolean same = x.same(s, t);
+        boolean bothWays = x.matches(s, t) && x.matches(t, s);
+        return same == (x.leader(s) == x.leader(t))
+            && (!same || bothWays && x.size(s) == x.size(t) && x.depth(s) == x.depth(t))
+            && x.common(s, t) == x.common(t, s)
+            && x.common(s, t) <= Math.min(x.size(s), x.size(t))
+            && (!same || x.common(s, t) == x.size(s))
+            && (!x.matches(s, t) || x.common(s, t) == x.size(s))
+            && (!bothWays || x.variables(s) == x.variables(t));
     }
 }
